@@ -19,6 +19,7 @@ final class Checks {
     static final int ECALL = 115, EBREAK = 1 << 20 | 115, SRET = 258 << 20 | 115, WFI = 261 << 20 | 115;
 
     private final String test;
+    private String sentence = "";
     private int asked;
     private int wrong;
 
@@ -26,16 +27,37 @@ final class Checks {
         this.test = test;
     }
 
+    /** The sentence of the document that the next answers are about: a wrong one is printed with it. */
+    void about(String words) {
+        sentence = " [" + words + "]";
+    }
+
     void due(String what, long got, long want) {
         asked++;
         if (got != want) {
             wrong++;
-            System.out.println(test + ": " + what + " answered " + got + ", due is " + want);
+            System.out.println(test + sentence + ": " + what + " answered " + got + ", due is " + want);
         }
     }
 
     void due(String what, boolean got, boolean want) {
         due(what, got ? 1 : 0, want ? 1 : 0);
+    }
+
+    /** All that can be seen of the object is as it is due. */
+    void due(String what, TrapDesk x, State want) {
+        asked++;
+        String difference = State.of(x).differenceFrom(want);
+        if (!difference.isEmpty()) {
+            wrong++;
+            System.out.println(test + sentence + ": " + what + ":" + difference);
+        }
+    }
+
+    /** A call that is refused, or that does nothing: its answer, and nothing has changed. */
+    void refused(String what, TrapDesk x, State before, long got, long want) {
+        due(what, got, want);
+        due(what + " changes nothing", x, before);
     }
 
     void finish() {
@@ -68,6 +90,74 @@ final class Checks {
         x.put(STVEC, 0x1000);
         x.put(VSTVEC, 0x2000);
         x.go(0x40);
+        x.mode(mode);
+        return x;
+    }
+
+    /**
+     * As in(mode), but nothing that can be seen is as at first, so that it shows if a call changes what it must not.
+     * It takes some 40 calls of the 512.
+     */
+    static TrapDesk busy(int mode) {
+        TrapDesk x = new TrapDesk();
+        firmware(x, 1, 'b', 0);
+        firmware(x, 1, 0xf0, 0);
+        firmware(x, 0, 6, 3);
+        x.time(0x300000005L);
+        x.line(true);
+        x.fail(5, 0x51, false, 0, false);
+        x.put(HEDELEG, 1 << 5);
+        x.mode(VU);
+        x.fail(5, 0x52, false, 0, false);
+        x.put(HEDELEG, 0);
+        x.put(SIE, 1 << 9);
+        x.interrupt();
+        putDifferentValues(x);
+        x.set(10, 0x1234);
+        x.set(11, -7);
+        x.set(17, 3);
+        x.go(0x40);
+        x.mode(mode);
+        return x;
+    }
+
+    private static void putDifferentValues(TrapDesk x) {
+        for (int bank = 0x100; bank <= 0x200; bank += 0x100) {
+            x.put(bank + 0x40, bank + 1);
+            x.put(bank + 0x41, bank + 4);
+            x.put(bank + 0x42, bank + 3);
+            x.put(bank + 0x43, bank + 5);
+            x.put(bank + 0x80, bank + 6);
+        }
+        x.put(SSTATUS, PIE | SUM);
+        x.put(VSSTATUS, PIE | PP | MXR);
+        x.put(STVEC, 0x1000);
+        x.put(VSTVEC, 0x2000);
+        x.put(SIE, 1 << 5);
+        x.put(SIP, 1 << 1);
+        x.put(HSTATUS, SPVP);
+        x.put(HIDELEG, 1 << 2 | 1 << 6);
+        x.put(HIE, 1 << 2 | 1 << 10);
+        x.put(HVIP, 1 << 6 | 1 << 10);
+        x.put(HTVAL, 0x643);
+        x.put(HTINST, 0x64a);
+        x.put(HGATP, 0x680);
+    }
+
+    /** A call of the firmware, in S. */
+    static int firmware(TrapDesk x, int x17, int x10, int x11) {
+        x.set(17, x17);
+        x.set(10, x10);
+        x.set(11, x11);
+        return x.doWord(ECALL);
+    }
+
+    /** As busy(mode), but the machine is off. */
+    static TrapDesk busyAndOff(int mode) {
+        TrapDesk x = busy(S);
+        x.set(17, 8);
+        x.doWord(ECALL);
+        x.set(10, 0x1234);
         x.mode(mode);
         return x;
     }
