@@ -11,7 +11,8 @@ public final class AgainstModelTest {
     private static final int[] EXCEPTIONS = {0, 1, 4, 5, 6, 7, 12, 13, 15, 20, 21, 23, 0, 13, 20, 2, 22, 24};
     private static final long[] TIMES = {0, 1, 4, 5, 0xffffffffL, 0x100000000L, 0x100000005L, 0x7fffffff00000000L,
         Long.MAX_VALUE - 1, Long.MAX_VALUE, -1};
-    private static final long[] SECONDS = {0, 3, 4, 0x1234567cL, 0x2fedcba98L, (1L << 34) - 1, (1L << 34) - 4, 1L << 34, -1};
+    private static final long[] SECONDS = {0, 3, 4, 0x1234567cL, 0x2fedcba98L, (1L << 34) - 1, (1L << 34) - 4, 1L << 34,
+        -1};
     private static final int[] WORDS = {Checks.ECALL, Checks.ECALL, Checks.EBREAK, Checks.SRET, Checks.SRET, Checks.WFI,
         Checks.word(9, 3, 4, 0, 0), Checks.word(17, 1, 2, 0, 0), Checks.word(49, 0, 0, 0, 0)};
 
@@ -73,7 +74,8 @@ public final class AgainstModelTest {
     private int word() {
         switch (lot.nextInt(6)) {
             case 0:
-            case 1: return Checks.control(control() & 0xfff, oneOf(lot, REGISTERS) & 31, lot.nextInt(8), oneOf(lot, REGISTERS) & 31);
+            case 1: return Checks.control(control() & 0xfff, oneOf(lot, REGISTERS) & 31, lot.nextInt(8),
+                    oneOf(lot, REGISTERS) & 31);
             case 2: return Checks.word(46 + lot.nextInt(10), lot.nextInt(5), lot.nextInt(32), 4, lot.nextInt(2) * 11);
             case 3: return lot.nextInt(3) == 0 ? lot.nextInt() : oneOf(lot, WORDS) ^ 1 << lot.nextInt(32);
             default: return oneOf(lot, WORDS);

@@ -59,7 +59,8 @@ public final class AnyCallsTest {
             case 9: return x.register(number());
             case 10: return x.doWord(random.nextInt());
             case 11: return x.doWord(PLAIN_WORDS[random.nextInt(PLAIN_WORDS.length)]);
-            case 12: return x.doWord(Checks.control(controlNumber() & 0xfff, random.nextInt(32), random.nextInt(8), 10));
+            case 12: return x.doWord(Checks.control(controlNumber() & 0xfff, random.nextInt(32), random.nextInt(8),
+                    10));
             case 13: return x.fail(random.nextInt(26) - 1, number(), random.nextBoolean(),
                     LONGS[random.nextInt(LONGS.length)], random.nextBoolean());
             case 14: return x.interrupt();

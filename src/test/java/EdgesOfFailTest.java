@@ -96,8 +96,10 @@ public final class EdgesOfFailTest {
         }
         for (int exception : TOLD) {
             TrapDesk x = Checks.busyAndOff(Checks.U);
-            CHECKS.refused("off: an address below", x, State.of(x), x.fail(exception, 1, false, -1, false), TrapDesk.BAD);
-            CHECKS.refused("off: an address above", x, State.of(x), x.fail(exception, 1, false, END, false), TrapDesk.BAD);
+            CHECKS.refused("off: an address below", x, State.of(x), x.fail(exception, 1, false, -1, false),
+                    TrapDesk.BAD);
+            CHECKS.refused("off: an address above", x, State.of(x), x.fail(exception, 1, false, END, false),
+                    TrapDesk.BAD);
         }
     }
 
@@ -107,8 +109,8 @@ public final class EdgesOfFailTest {
             for (int m = 0; m < 4; m++) {
                 TrapDesk x = Checks.busyAndOff(m);
                 x.put(Checks.HEDELEG, 1 << 5);
-                CHECKS.refused("off: fail(" + exception + ")", x, State.of(x), x.fail(exception, 1, true, END - 1, true),
-                        TrapDesk.OFF);
+                CHECKS.refused("off: fail(" + exception + ")", x, State.of(x),
+                        x.fail(exception, 1, true, END - 1, true), TrapDesk.OFF);
             }
         }
     }
@@ -170,7 +172,7 @@ public final class EdgesOfFailTest {
     }
 
     private static void delegationOutsideVirtualModes() {
-        CHECKS.about("An exception in VU or VS whose bit in HEDELEG is set goes to VS, all others to S (those of U, S)");
+        CHECKS.about("An exception in VU or VS whose bit in HEDELEG is set goes to VS, all others to S (U, S)");
         for (int exception : TOLD) {
             for (int m : new int[] {Checks.U, Checks.S}) {
                 TrapDesk x = Checks.busy(m);

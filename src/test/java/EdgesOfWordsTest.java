@@ -2,7 +2,8 @@
 public final class EdgesOfWordsTest {
     private static final Checks CHECKS = new Checks("EdgesOfWords");
     private static final int ILLEGAL = 2, VIRTUAL = 22;
-    private static final int ALL_BUT_VTSR = Checks.GVA | Checks.SPV | Checks.SPVP | Checks.HU | Checks.VTVM | Checks.VTW;
+    private static final int ALL_BUT_VTSR = Checks.GVA | Checks.SPV | Checks.SPVP | Checks.HU | Checks.VTVM
+            | Checks.VTW;
     private static final int[] WITHOUT_A = {Checks.ECALL, Checks.EBREAK, Checks.SRET, Checks.WFI};
     private static final int[] FENCES = {9, 17, 49};
 
@@ -54,7 +55,8 @@ public final class EdgesOfWordsTest {
 
     private static void isOther(int word, int m, int hstatus) {
         TrapDesk x = busy(m, hstatus);
-        CHECKS.refused("word " + Integer.toHexString(word) + " in " + m, x, State.of(x), x.doWord(word), TrapDesk.OTHER);
+        CHECKS.refused("word " + Integer.toHexString(word) + " in " + m, x, State.of(x), x.doWord(word),
+                TrapDesk.OTHER);
     }
 
     private static void wordsOfAnotherOp() {
@@ -76,7 +78,8 @@ public final class EdgesOfWordsTest {
 
     private static void immediatesThatAreNotNamed() {
         CHECKS.about("What is not named here is ILLEGAL: exception 2");
-        int[] wrong = {2, 3, 32, 64, 255, 256, 257, 259, 260, 262, 263, 287, 320, 511, 770, 773, 2048, 2306, 2309, 4095};
+        int[] wrong = {2, 3, 32, 64, 255, 256, 257, 259, 260, 262, 263, 287, 320, 511, 770, 773, 2048, 2306, 2309,
+            4095};
         for (int i : wrong) {
             for (int m = 0; m < 4; m++) {
                 trapsToS(i << 20 | 115, m, 0, ILLEGAL);

@@ -73,7 +73,8 @@ public final class FailTest {
                     CHECKS.due(what + ", HSTATUS", x.get(Checks.HSTATUS), Checks.HU | Checks.VTW
                             | (virtual || far == 1 ? Checks.GVA : 0) | (virtual ? Checks.SPV : 0)
                             | (m == Checks.VS ? Checks.SPVP : 0));
-                    CHECKS.due(what + ", STATUS", x.get(Checks.SSTATUS), m == Checks.S || m == Checks.VS ? Checks.PP : 0);
+                    CHECKS.due(what + ", STATUS", x.get(Checks.SSTATUS),
+                            m == Checks.S || m == Checks.VS ? Checks.PP : 0);
                     CHECKS.due(what + ", the mode", x.count(0), Checks.S);
                     CHECKS.due(what + ", the PC", x.count(1), 0x1000);
                     CHECKS.due(what + ", VS EPC", x.get(Checks.VSEPC), 0);

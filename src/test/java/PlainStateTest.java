@@ -69,7 +69,8 @@ public final class PlainStateTest {
             CHECKS.due("set(" + n + ")", x.set(n, -n), 0);
             CHECKS.due("set(" + n + ") again", x.set(n, n * 3), -n);
         }
-        for (int n : new int[] {-1, 0, 1, 9, 12, 16, 18, 31, 32, 42, 43, 49, -22, Integer.MAX_VALUE, Integer.MIN_VALUE}) {
+        for (int n : new int[] {-1, 0, 1, 9, 12, 16, 18, 31, 32, 42, 43, 49, -22, Integer.MAX_VALUE,
+            Integer.MIN_VALUE}) {
             CHECKS.due("set(" + n + ")", x.set(n, 7), 0);
             CHECKS.due("register(" + n + ")", x.register(n), 0);
         }
